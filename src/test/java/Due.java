@@ -1,0 +1,37 @@
+/** Counts answers, prints each that is not the one that is due, and ends the test with 1 if there was one. */
+final class Due {
+    private final String test;
+    private int checks;
+    private int wrong;
+
+    Due(String test) {
+        this.test = test;
+    }
+
+    void is(String call, int got, int want) {
+        checks++;
+        if (got != want) {
+            wrong++;
+            System.out.println(test + ": " + call + " answered " + got + ", due is " + want);
+        }
+    }
+
+    void holds(String what, boolean good) {
+        checks++;
+        if (!good) {
+            wrong++;
+            System.out.println(test + ": not so: " + what);
+        }
+    }
+
+    boolean anyWrong() {
+        return wrong > 0;
+    }
+
+    void end() {
+        System.out.println(test + ": " + checks + " checks, " + wrong + " wrong");
+        if (wrong > 0 || checks == 0) {
+            System.exit(1);
+        }
+    }
+}
