@@ -245,7 +245,8 @@ public final class GlassBooths {
 
     private void searchTeams(int session) {
         if (isSession(session)) {
-            search.walk(floorsOf[session], wantedIn[session], seatsEach);
+            search.prepare(floorsOf[session], wantedIn[session], seatsEach);
+            search.placeFrom(0);
         }
     }
 
@@ -372,7 +373,7 @@ public final class GlassBooths {
             Arrays.fill(trial, NO_BOOTH);
         }
 
-        void walk(int floors, int wanted, int seatsEach) {
+        void prepare(int floors, int wanted, int seatsEach) {
             this.floors = floors;
             this.wanted = wanted;
             found = 0;
@@ -385,10 +386,9 @@ public final class GlassBooths {
                 freeSeats[tongue] = holds(wanted, tongue) ? seatsEach : 0;
                 openSeats += freeSeats[tongue];
             }
-            placeFrom(0);
         }
 
-        /** Booths are tried from the least on and none last, so that teams are met in their order. */
+        /** Booths are tried from the least on and none last, so that the first of equals is met first. */
         private void placeFrom(int person) {
             if (openSeats > people.size - person) {
                 return;
@@ -436,7 +436,7 @@ public final class GlassBooths {
             }
         }
 
-        /** A relay that is the floor itself adds nothing: whoever knows it has the direct way. */
+        /** A relay that is the floor itself need not be left out: whoever knows it has the direct way. */
         private boolean reachesFloors(int tongue) {
             int reached = sharedKnown[tongue] | 1 << tongue;
             for (int relay = 0; relay < TONGUES; relay++) {

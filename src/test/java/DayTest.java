@@ -23,6 +23,8 @@ public final class DayTest {
         lateDirectAndByRelay();
         wornBehindSomeHalf();
         dayIsThatOfTheTeamAtHand();
+        everyLookStartsWithFreshPeople();
+        sixPeopleInThreeBooths();
         countsAll();
         due.end();
     }
@@ -333,6 +335,56 @@ public final class DayTest {
         x.leave();
         due.is("17 left", x.on(1, 3), NONE);
         due.is("19 left", x.tired(1, 3), 0);
+    }
+
+    /** 0 knows tongue 1, its mate does not: who is on in half 0 tells whether the day began fresh. */
+    private static void everyLookStartsWithFreshPeople() {
+        GlassBooths x = new GlassBooths();
+        x.seats(2);
+        x.person(7, 1, 1);
+        x.person(5, 1, 1);
+        x.session(0, 0, 1);
+        x.take(0, 0);
+        x.speak(0, 1, 9);
+        x.speak(15, 2, 9);
+        for (int again = 0; again < 3; again++) {
+            due.is("20 late", x.late(0), 4);
+            due.is("21 worn", x.worn(), 0);
+            due.is("19 tired", x.tired(0, 15), 9);
+            due.is("17 on", x.on(0, 0), 0);
+        }
+        for (int half = 3; half < 16; half++) {
+            x.speak(half, 2, 3);
+        }
+        x.limit(18);
+        for (int again = 0; again < 3; again++) {
+            due.is("21 worn none", x.worn(), 0);
+            due.is("20 late", x.late(0), 15);
+        }
+    }
+
+    private static void sixPeopleInThreeBooths() {
+        GlassBooths x = new GlassBooths();
+        x.seats(2);
+        for (int person = 0; person < 6; person++) {
+            x.person(31, 1 << person / 2, 1);
+        }
+        x.session(0, 31, 7);
+        due.is("9 all six", x.take(0, 0), 6);
+        for (int half = 0; half < 16; half++) {
+            x.speak(half, 3, 9);
+        }
+        for (int person = 0; person < 6; person++) {
+            due.is("17 on in 14", x.on(person / 2, 14), person / 2 * 2);
+            due.is("17 on in 15", x.on(person / 2, 15), person / 2 * 2 + 1);
+            due.is("19 tired(" + person + ")", x.tired(person, 15), person % 2 == 0 ? 56 : 58);
+        }
+        x.limit(58);
+        due.is("21 58 is not above 58", x.worn(), 0);
+        x.limit(57);
+        due.is("21 all", x.worn(), 63);
+        due.is("20 late", x.late(2), 32);
+        due.is("10 all six", x.leave(), 6);
     }
 
     private static void countsAll() {
