@@ -23,34 +23,13 @@ public final class DayTest {
         lateDirectAndByRelay();
         wornBehindSomeHalf();
         dayIsThatOfTheTeamAtHand();
-        everyLookStartsWithFreshPeople();
         sixPeopleInThreeBooths();
         countsAll();
         due.end();
     }
 
-    /** Two in booth 0 (people 0 and 1, who know all). */
-    private static GlassBooths pair() {
-        GlassBooths x = new GlassBooths();
-        x.person(31, 1, 5);
-        x.person(31, 1, 5);
-        x.seats(2);
-        x.session(0, 0, 1);
-        x.take(0, 0);
-        return x;
-    }
-
-    /** One in booth 0 (who knows all). */
-    private static GlassBooths alone() {
-        GlassBooths x = new GlassBooths();
-        x.person(31, 1, 5);
-        x.session(0, 0, 1);
-        x.take(0, 0);
-        return x;
-    }
-
     private static void unknowns() {
-        GlassBooths x = alone();
+        GlassBooths x = Scenes.alone();
         for (int tongue : NO_TONGUES) {
             due.is("14 speak tongue " + tongue, x.speak(0, tongue, 1), UNKNOWN);
             due.is("17 on tongue " + tongue, x.on(tongue, 0), UNKNOWN);
@@ -71,7 +50,7 @@ public final class DayTest {
     }
 
     private static void speakRefusals() {
-        GlassBooths x = alone();
+        GlassBooths x = Scenes.alone();
         x.speak(0, 1, 3);
         for (int speed : new int[] {0, 10, -1, Integer.MIN_VALUE, Integer.MAX_VALUE}) {
             due.is("14 speed " + speed, x.speak(0, 2, speed), OUTSIDE);
@@ -84,7 +63,7 @@ public final class DayTest {
     }
 
     private static void speakReplaces() {
-        GlassBooths x = alone();
+        GlassBooths x = Scenes.alone();
         due.is("14 first", x.speak(0, 4, 1), 1);
         due.is("14 tired", x.tired(0, 0), 1);
         due.is("14 again", x.speak(0, 4, 9), 1);
@@ -97,7 +76,7 @@ public final class DayTest {
     }
 
     private static void silenceAnswersWhatWas() {
-        GlassBooths x = alone();
+        GlassBooths x = Scenes.alone();
         due.is("15 was silent", x.silence(15), 0);
         x.speak(15, 0, 1);
         x.speak(0, 1, 4);
@@ -121,7 +100,7 @@ public final class DayTest {
 
     /** 3 for person 0; then 8 for person 1, while 0 rests; then 0 with 1, and so on. */
     private static void onIsTheLeastTired() {
-        GlassBooths x = pair();
+        GlassBooths x = Scenes.pair();
         x.speak(0, 1, 3);
         x.speak(1, 1, 8);
         x.speak(2, 1, 2);
@@ -140,7 +119,7 @@ public final class DayTest {
     }
 
     private static void onIsTheFirstOfSeveral() {
-        GlassBooths x = pair();
+        GlassBooths x = Scenes.pair();
         due.is("17 the first", x.on(0, 0), 0);
         x.speak(0, 1, 2);
         x.speak(1, 1, 2);
@@ -151,7 +130,7 @@ public final class DayTest {
     }
 
     private static void onWhileSilent() {
-        GlassBooths x = pair();
+        GlassBooths x = Scenes.pair();
         x.speak(0, 1, 9);
         due.is("17 silent", x.on(0, 1), 1);
         due.is("17 still", x.on(0, 5), 1);
@@ -234,7 +213,7 @@ public final class DayTest {
     }
 
     private static void tiredGrowsAndFalls() {
-        GlassBooths x = alone();
+        GlassBooths x = Scenes.alone();
         for (int half = 0; half < 16; half++) {
             x.speak(half, 1, 9);
         }
@@ -337,32 +316,6 @@ public final class DayTest {
         due.is("19 left", x.tired(1, 3), 0);
     }
 
-    /** 0 knows tongue 1, its mate does not: who is on in half 0 tells whether the day began fresh. */
-    private static void everyLookStartsWithFreshPeople() {
-        GlassBooths x = new GlassBooths();
-        x.seats(2);
-        x.person(7, 1, 1);
-        x.person(5, 1, 1);
-        x.session(0, 0, 1);
-        x.take(0, 0);
-        x.speak(0, 1, 9);
-        x.speak(15, 2, 9);
-        for (int again = 0; again < 3; again++) {
-            due.is("20 late", x.late(0), 4);
-            due.is("21 worn", x.worn(), 0);
-            due.is("19 tired", x.tired(0, 15), 9);
-            due.is("17 on", x.on(0, 0), 0);
-        }
-        for (int half = 3; half < 16; half++) {
-            x.speak(half, 2, 3);
-        }
-        x.limit(18);
-        for (int again = 0; again < 3; again++) {
-            due.is("21 worn none", x.worn(), 0);
-            due.is("20 late", x.late(0), 15);
-        }
-    }
-
     private static void sixPeopleInThreeBooths() {
         GlassBooths x = new GlassBooths();
         x.seats(2);
@@ -388,7 +341,7 @@ public final class DayTest {
     }
 
     private static void countsAll() {
-        GlassBooths x = pair();
+        GlassBooths x = Scenes.pair();
         x.person(1, 1, 1);
         x.ill(2, true);
         x.speak(0, 0, 1);

@@ -1,6 +1,7 @@
 /** Counts answers, prints each that is not the one that is due, and ends the test with 1 if there was one. */
 final class Due {
     private final String test;
+    private String sentence = "";
     private int checks;
     private int wrong;
 
@@ -8,11 +9,16 @@ final class Due {
         this.test = test;
     }
 
+    /** The promise or term, and its sentence, that the checks from here on belong to. */
+    void of(String sentence) {
+        this.sentence = "[" + sentence + "] ";
+    }
+
     void is(String call, int got, int want) {
         checks++;
         if (got != want) {
             wrong++;
-            System.out.println(test + ": " + call + " answered " + got + ", due is " + want);
+            System.out.println(test + ": " + sentence + call + " answered " + got + ", due is " + want);
         }
     }
 
@@ -20,7 +26,7 @@ final class Due {
         checks++;
         if (!good) {
             wrong++;
-            System.out.println(test + ": not so: " + what);
+            System.out.println(test + ": " + sentence + "not so: " + what);
         }
     }
 
