@@ -48,7 +48,7 @@ public final class TermEdgesTest {
     }
 
     private static void tongues() {
-        due.of("Terms: TONGUES are 0 .. (4: 5 is no BOOTH)");
+        due.of("Terms: TONGUES are 0 .. 4.");
         GlassBooths x = new GlassBooths();
         for (int tongue = 0; tongue < 5; tongue++) {
             due.is("person for " + tongue, x.person(1 << tongue, 1 << tongue, 1), tongue);
